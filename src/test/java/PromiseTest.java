@@ -374,6 +374,7 @@ public final class PromiseTest {
         due("17: none", x.fair(100, 1000, 0), 0);
         due("17: none", x.fair(100, 1000, 1), NONE);
         due("17: eyes, heart of nobody", x.fair(99, 99, 0), 6);
+        due("17: highest", x.fair(9999, 9999, 0), 0);
         due("17: one", x.fair(-1, 0, 0), BAD);
         due("17: one", x.fair(10000, 0, 0), BAD);
         due("17: other", x.fair(0, -1, 0), BAD);
@@ -545,9 +546,11 @@ public final class PromiseTest {
         due("25: seed", x.seed(0), Long.MIN_VALUE);
         due("26: m", x.years(0), BAD);
         due("26: m", x.years(31), BAD);
+        due("26: m", x.years(-1), BAD);
         due("25: refused, the seed stays", x.seed(0), 0);
         due("26: nobody", x.years(1), 0);
         due("25: seed", x.seed(0), 1442695040888963407L);
+        due("26: most years", x.years(30), 0);
     }
 
     /** By the seed 0 the years bring 15, 8, 1, 4, 13, 11, 8, 7, 0, 11, 15, 2. */
