@@ -1,44 +1,7 @@
-import java.util.ArrayList;
-import java.util.List;
-
 /** Each promise by answers worked out by hand: ordinary inputs, edges, wrong inputs. */
-public final class PromiseTest {
-    private static final int UNKNOWN = -1, BAD = -2, LATE = -3, FULL = -4, NONE = -9;
+public final class PromiseTest extends Checks {
     /** One row: plain kin 0 (voice, hands), aunt 1, uncle 2, infant 3 (a voice each). */
     private static final String ONE_ROW = "FK0K1K2K3RaeimbD03D11D04";
-
-    private static final List<String> wrong = new ArrayList<>();
-
-    private static void due(String what, long got, long want) {
-        if (got != want) {
-            wrong.add(what + " answered " + got + ", due is " + want);
-        }
-    }
-
-    private static void put(WireFamily x, String text) {
-        x.wipe();
-        for (char letter : text.toCharArray()) {
-            x.write(letter);
-        }
-    }
-
-    private static WireFamily of(String text) {
-        WireFamily x = new WireFamily();
-        put(x, text);
-        if (x.family() < 0) {
-            wrong.add("no family: " + text);
-        }
-        return x;
-    }
-
-    /** Draws one row to a place; rows beside it must let it. */
-    private static void drawTo(WireFamily x, int row, int from, int to) {
-        int way = to > from ? 1 : 0;
-        for (int at = from; at != to; ) {
-            at += way == 1 ? 1 : -1;
-            due("draw to " + to, x.draw(row, way), at);
-        }
-    }
 
     private static void aNewObject() {
         WireFamily x = new WireFamily();
@@ -631,11 +594,6 @@ public final class PromiseTest {
         seeds();
         years();
         slots();
-        for (String line : wrong) {
-            System.out.println(line);
-        }
-        if (!wrong.isEmpty()) {
-            System.exit(1);
-        }
+        end();
     }
 }
