@@ -266,7 +266,7 @@ public final class EdgeWiresTest extends Checks {
         share(x, 1, 0, 1, 6);
         share(x, 3, 0, 1, 6);
         share(x, 4, 0, 0, 1);
-        // Four are needed: kin 0 and two of the three others, or it is late: 1/2 as well.
+        // Four are needed: kin 0 brings it about if it comes third or last, so 1/2 as well.
         WireFamily four = ofRowAt("FK0K0K0K0RaaeimD04", 5);
         share(four, 0, 0, 1, 2);
         share(four, 2, 0, 1, 6);
