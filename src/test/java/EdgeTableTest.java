@@ -440,8 +440,6 @@ public final class EdgeTableTest extends Checks {
         due("the wire", x.about(4), 123);
         due("gold", x.about(3), 0);
         due("undo a change", x.undo(), 1);
-        due("cell", x.cell(1, 1, 0) * 10 + x.cell(1, 2, 0), 1);
-        due("cell behind", x.cell(1, 3, 0), 1);
         due("undo the first", x.undo(), 0);
         due("the wire", x.about(4), 122);
         due("none", x.undo(), LATE);
@@ -449,6 +447,65 @@ public final class EdgeTableTest extends Checks {
         x.draw(9, 0);
         x.draw(0, 9);
         x.change(9);
+        due("none", x.undo(), LATE);
+    }
+
+    /** The kin of all cells of a row, as figures. */
+    private static int kinOfRow(WireFamily x, int row) {
+        int figures = 0;
+        for (int column = 0; column < 5; column++) {
+            figures = 10 * figures + x.cell(row, column, 0);
+        }
+        return figures;
+    }
+
+    private static void undoneCells() {
+        says("14 CHANGED is undone in the ROW where it was, at the WIRE as it was then");
+        String rows = "FK0K0K0K0K0RaeimqRaeimqRaeimqRaeimqRaeimq";
+        for (int row = 0; row < 5; row++) {
+            for (int way = 0; way <= 1; way++) {
+                WireFamily x = of(rows);
+                x.draw(row, way);
+                x.change(row);
+                due("changed", kinOfRow(x, row), way == 0 ? 10234 : 1324);
+                x.draw(row, 1 - way);
+                x.change(row);
+                x.join();
+                due("undo join", x.undo(), 4);
+                due("undo change", x.undo(), 3);
+                due("undo draw", x.undo(), 2);
+                due("changed once", kinOfRow(x, row), way == 0 ? 10234 : 1324);
+                due("undo change", x.undo(), 1);
+                due("undo draw", x.undo(), 0);
+                for (int at = 0; at < 5; at++) {
+                    due("as told, row " + at, kinOfRow(x, at), 1234);
+                }
+            }
+        }
+        says("14 DRAWN, JOINED are undone, and CELLS stay as they are");
+        WireFamily x = of(rows);
+        x.change(0);
+        x.draw(4, 1);
+        x.join();
+        x.undo();
+        due("undo", x.undo(), 1);
+        due("row 0", kinOfRow(x, 0), 2134);
+    }
+
+    private static void fullActsByRow() {
+        says("Terms: ACTS: when it is full, the first one is forgotten, and each other one stays what it was");
+        WireFamily x = of("FK0K0K0K0K0RaeimqRaeimqRaeimqRaeimqRaeimq");
+        for (int n = 0; n < 16; n++) {
+            x.change(n * 2 % 5);
+        }
+        // Rows 0, 2, 4, 1, 3, again and again: rows 0 and 2 were the first ones.
+        for (int left = 13; left >= 0; left--) {
+            due("undo", x.undo(), left);
+        }
+        int[] want = {2134, 1234, 2134, 1234, 1234};
+        for (int row = 0; row < 5; row++) {
+            due("row " + row, kinOfRow(x, row), want[row]);
+        }
         due("none", x.undo(), LATE);
     }
 
@@ -530,7 +587,9 @@ public final class EdgeTableTest extends Checks {
         changeArguments();
         joins();
         undoes();
+        undoneCells();
         fullActs();
+        fullActsByRow();
         fullActsRefused();
         end();
     }

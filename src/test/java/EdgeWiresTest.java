@@ -23,6 +23,7 @@ public final class EdgeWiresTest extends Checks {
         best("FK0RaaaaaD06", 10, 0);
         says("2 BEST: from no DEEDS to all by both halves");
         best("FK1RaaaaaD01D02D03D05", 10, 8);
+        best("FK0RaaaaaD11D21D31D19", 10, 0);
         best("FK0Raaaaa", 10, 0);
         best("FK0", 1, 0);
         best("FD01", 1, 0);
