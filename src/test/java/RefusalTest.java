@@ -45,7 +45,7 @@ public final class RefusalTest extends Checks {
         x.change(2);
         x.draw(4, 0);
         for (int n = 0; n < 6; n++) {
-            x.see(n % 5, n < 3 ? 2 : n % 3);
+            x.see(n % 5, 2);
         }
         x.seed(123456789L);
         put(x, "FK0K1K3RabcdeK");
@@ -330,7 +330,14 @@ public final class RefusalTest extends Checks {
         tells(state, "seed, and back", x -> x.seed(x.seed(-7)));
     }
 
+    /** Were there no wire by all that is seen, a sight put in the place of another would not be told. */
+    private static void sightsTell() {
+        WireFamily x = richAndFull();
+        due("some wires are left", x.traces(0) > 0 && x.traces(0) < x.about(7) ? 1 : 0, 1);
+    }
+
     public static void main(String[] args) {
+        sightsTell();
         for (State state : State.values()) {
             refusedAlways(state);
             looks(state);
