@@ -9,6 +9,8 @@ public final class RefusalTest extends Checks {
     private static final String RICH = "FK0K1K2K3K0RaifemRnqriaRneqaiRbgjorRcdhlsD02D12D21D31";
     /** Calls that an object may have, by the document. */
     private static final int MOST_CALLS = 512;
+    /** More than are used to make a state, for the call itself, and beside those that are told. */
+    private static final int CALLS_AHEAD = 120;
 
     private interface Call {
         long on(WireFamily x);
@@ -85,7 +87,7 @@ public final class RefusalTest extends Checks {
             slot(0);
             slot(1);
             seenAndText();
-            if (answers.size() > MOST_CALLS - 110) {
+            if (answers.size() > MOST_CALLS - CALLS_AHEAD) {
                 wrong("too many calls: " + answers.size());
             }
             return answers;
