@@ -252,14 +252,15 @@ public final class WireFamily {
         if (n < 1 || n > MOST_DOINGS) {
             return BAD;
         }
-        int unit = 1;
-        for (int doing = 1; doing < n; doing++) {
-            unit *= 100;
+        int bound = 1;
+        for (int doing = 0; doing < n; doing++) {
+            bound *= 100;
         }
-        if (row < 0 || row / unit > 99) {
+        if (row < 0 || row >= bound) {
             return BAD;
         }
         trial.copyOf(table);
+        int unit = bound / 100;
         for (int place = 0; place < n && unit > 0; place++) {
             int doing = row / unit % 100;
             if (!trial.act(doing / 10, doing % 10)) {

@@ -1,20 +1,18 @@
+import java.io.IOException;
 import java.lang.reflect.Constructor;
 import java.lang.reflect.Field;
 import java.lang.reflect.Member;
 import java.lang.reflect.Method;
 import java.lang.reflect.Modifier;
-import java.nio.charset.StandardCharsets;
 import java.nio.file.Files;
 import java.nio.file.Path;
 import java.util.ArrayList;
 import java.util.List;
 import java.util.Set;
 import java.util.TreeSet;
-import java.util.regex.Matcher;
-import java.util.regex.Pattern;
 
-/** The face of the document, and those rules of LANGUAGE.md that can be seen from outside. */
-public final class LanguageTest {
+/** The face of the document, and those rules of LANGUAGE.md that the compiled class shows. */
+public final class LanguageTest extends Checks {
     private static final Path SOURCE = Path.of("src/main/java/WireFamily.java");
     private static final Set<String> FACE = Set.of(
             "int write(int)", "int wipe()", "int fault()", "int family()", "int about(int)",
@@ -25,11 +23,10 @@ public final class LanguageTest {
             "int rests(int)", "int slips(int,int,int,boolean)", "long seed(long)", "int years(int)",
             "int keep(int)", "int again(int)");
     private static final Set<String> CONSTANTS = Set.of("UNKNOWN", "BAD", "LATE", "FULL", "NONE");
-    private static final List<String> wrong = new ArrayList<>();
 
     private static void must(boolean holds, String what) {
         if (!holds) {
-            wrong.add(what);
+            wrong(what);
         }
     }
 
@@ -98,78 +95,15 @@ public final class LanguageTest {
         must(type.getDeclaredClasses().length == 0, "2: a class in a class in a class: " + type);
     }
 
-    /** The program without its comments and without what stands in quotes. */
-    private static String code(String source) {
-        return source.replaceAll("(?s)/\\*.*?\\*/", "").replaceAll("//[^\n]*", "")
-                .replaceAll("\"(\\\\.|[^\"\\\\])*\"", "\"\"").replaceAll("'(\\\\.|[^'\\\\])'", "' '");
-    }
-
-    private static void words(String code) {
-        for (String word : new String[] {"throw", "throws", "try", "catch", "finally", "synchronized", "assert",
-            "hashCode", "toString", "equals", "Object", "Thread", "System.currentTimeMillis", "System.nanoTime",
-            "Random", "package", "var", "volatile", "native", "strictfp", "transient"}) {
-            must(!Pattern.compile("\\b" + Pattern.quote(word) + "\\b").matcher(code).find(), "6: " + word);
-        }
-        must(!code.contains("->") && !code.contains("::"), "2: lambda or method reference");
-        must(!code.contains("@"), "3: annotation");
-        must(!Pattern.compile("while\\s*\\(\\s*true|for\\s*\\(\\s*;\\s*;").matcher(code).find(), "9: endless loop");
-        for (Matcher line = Pattern.compile("import ([^;]*);").matcher(code); line.find(); ) {
-            must(Set.of("java.util.Arrays", "java.util.ArrayList", "java.util.List").contains(line.group(1)),
-                    "4: import " + line.group(1));
-        }
-        for (Matcher call = Pattern.compile("\\b(System|Arrays|Math|Integer|Long|String)\\.(\\w+)").matcher(code);
-                call.find(); ) {
-            must(Set.of("System.arraycopy", "Arrays.fill", "Arrays.copyOf", "Arrays.copyOfRange", "Math.min",
-                    "Math.max", "Math.abs", "Integer.bitCount").contains(call.group()), "4: " + call.group());
-        }
-    }
-
-    /** New objects and arrays are made by constructors and initialisers alone. */
-    private static void news(String code) {
-        for (String line : code.split("\n")) {
-            if (Pattern.compile("\\bnew\\b").matcher(line).find()) {
-                must(line.matches("\\s*(private final [^=]* = )?(\\w+(\\[slot\\])? = )?new [^;]*;"), "12: " + line.trim());
-            }
-        }
-    }
-
-    private static void lengths(String source) {
-        String[] lines = source.split("\n");
-        int start = -1;
-        int depthAtStart = 0;
-        int depth = 0;
-        for (int at = 0; at < lines.length; at++) {
-            String line = code(lines[at]);
-            boolean opensMethod = line.matches(" {4,8}\\S.*\\)\\s*\\{\\s*") && start < 0
-                    && !line.matches("\\s*(if|for|while|switch|else|\\}).*");
-            if (opensMethod) {
-                start = at;
-                depthAtStart = depth;
-            }
-            depth += line.chars().map(c -> c == '{' ? 1 : c == '}' ? -1 : 0).sum();
-            if (start >= 0 && depth == depthAtStart) {
-                must(at - start < 60, "11: method of " + (at - start + 1) + " lines: " + lines[start].trim());
-                start = -1;
-            }
-        }
-    }
-
-    public static void main(String[] args) throws Exception {
-        face();
-        byte[] bytes = Files.readAllBytes(SOURCE);
-        for (byte sign : bytes) {
+    private static void signs() throws IOException {
+        for (byte sign : Files.readAllBytes(SOURCE)) {
             must(sign > 0, "4: a sign above 127");
         }
-        String source = new String(bytes, StandardCharsets.US_ASCII);
-        String code = code(source);
-        words(code);
-        news(code);
-        lengths(source);
-        for (String line : wrong) {
-            System.out.println(line);
-        }
-        if (!wrong.isEmpty()) {
-            System.exit(1);
-        }
+    }
+
+    public static void main(String[] args) throws IOException {
+        face();
+        signs();
+        end();
     }
 }
